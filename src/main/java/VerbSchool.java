@@ -56,7 +56,7 @@ public final class VerbSchool {
     private final int[] found;
     private int foundSize;
     private Book told;
-    /** The next text is read into this one, so that a text with a FAULT leaves the BOOK as it is. */
+    /** A text is read into this one first, so that one with a FAULT leaves the BOOK as it is. */
     private Book spare;
 
     public VerbSchool() {
@@ -230,7 +230,8 @@ public final class VerbSchool {
             if (right != null) {
                 learners[l].ease(right.lineBits());
                 judged = 0;
-            } else if (isSlipAt(v, tense, person) && explainer.explain(told, tape, maker, v, tense, person)) {
+            } else if (isSlipAt(v, tense, person)
+                && explainer.explain(told, tape, maker, v, tense, person)) {
                 learners[l].miss(explainer.missedBits());
                 judged = explainer.best.cost();
             } else {
@@ -393,8 +394,8 @@ public final class VerbSchool {
         }
 
         void set(Text from) {
-            clear();
-            addAll(from);
+            size = 0;
+            addPart(from, 0, from.size);
         }
 
         boolean same(Text other) {
@@ -677,7 +678,7 @@ public final class VerbSchool {
             boolean whole;
             switch (it.kind) {
                 case STEM: whole = takeWhere(it) && takeSlot(it) && takeChange(it); break;
-                case ENDING: whole = takeWhere(it) && takeSlot(it) && takeLetters(it.first, true); break;
+                case ENDING: whole = takeWhere(it) && takeSlot(it) && takeLetters(it.first); break;
                 case SOUND: whole = takeChange(it) && takeLast(it); break;
                 case COMPOUND: whole = takeWhere(it) && takeCompound(it); break;
                 case EXCEPT: whole = takeOwner(it) && takeSlot(it) && takeExcepted(it); break;
@@ -712,7 +713,7 @@ public final class VerbSchool {
         }
 
         private boolean takeChange(Line it) {
-            return takeLetters(it.first, false) && take(TO) && takeLetters(it.second, true);
+            return isNotEmpty() && takeLetters(it.first) && take(TO) && takeLetters(it.second);
         }
 
         private boolean takeLast(Line it) {
@@ -736,18 +737,19 @@ public final class VerbSchool {
             if (token == LETTERS && out.exceptsLike(it) >= EXCEPTS_OF_SLOT) {
                 return refuse(NO_ROOM);
             }
-            return takeLetters(it.first, false);
+            return isNotEmpty() && takeLetters(it.first);
         }
 
-        private boolean takeLetters(Text into, boolean mayBeEmpty) {
+        private boolean isNotEmpty() {
+            return token != LETTERS || next - start > 2 || refuse(EMPTY);
+        }
+
+        private boolean takeLetters(Text into) {
             if (token != LETTERS) {
                 return refuse(SYNTAX);
             }
             into.clear();
             into.addPart(text, start + 1, next - 1);
-            if (into.size == 0 && !mayBeEmpty) {
-                return refuse(EMPTY);
-            }
             step();
             return true;
         }
@@ -1152,7 +1154,7 @@ public final class VerbSchool {
 
     /** A way to a word: the LINES that FIT there, and what is taken instead of them. */
     private static final class Way {
-        /** The LINE that FITS, if there is one; the numbers are the order in which ways are tried. */
+        /** The LINE that FITS. All ways are tried in the order of these and the LINES' numbers. */
         static final int OWN = -2;
         static final int NO_STEM = -1;
         static final int NO_ENDING = LINES;

@@ -1,5 +1,7 @@
 import java.util.ArrayList;
+import java.util.HashMap;
 import java.util.List;
+import java.util.Map;
 import java.util.Random;
 
 /** Random texts of books, most without a fault, over few letters, so that rules meet often. */
@@ -8,34 +10,41 @@ final class BookWriter {
     private final StringBuilder out = new StringBuilder();
     private final List<String> classes = new ArrayList<>();
     private final List<String> verbs = new ArrayList<>();
+    private final Map<String, Integer> excepts = new HashMap<>();
     private final int tenses;
+    private final boolean careless;
+    private int lines = 0;
 
     BookWriter(Random random) {
         this.random = random;
-        tenses = 1 + random.nextInt(5);
+        tenses = 1 + random.nextInt(random.nextInt(3) == 0 ? 5 : 2);
+        careless = random.nextInt(6) == 0;
     }
 
     String text() {
-        boolean careless = random.nextInt(4) == 0;
         int items = random.nextInt(10) == 0 ? 100 : 5 + random.nextInt(30);
         add("class", "a");
         classes.add("a");
         out.append(';');
         addVerb();
+        addVerb();
         for (int i = 0; i < items && out.length() < 3900; i++) {
             int kind = random.nextInt(careless ? 40 : 30);
-            if (kind == 0 && (classes.size() < 6 || random.nextInt(9) == 0)) {
+            if (kind == 0 && (classes.size() < 6 || careless)) {
                 String name = letters(1, 3);
                 if (!classes.contains(name) || careless) {
                     add("class", name);
                     classes.add(name);
                     out.append(';');
                 }
-            } else if (kind < 6 && (verbs.size() < 30 || random.nextInt(9) == 0)) {
-                addVerb();
-            } else {
+            } else if (kind < 4) {
+                if (verbs.size() < 30 || careless) {
+                    addVerb();
+                }
+            } else if (lines < 60 || careless) {
                 addLine(kind);
                 out.append(';');
+                lines++;
             }
         }
         return out.toString();
@@ -51,7 +60,7 @@ final class BookWriter {
     }
 
     private void addLine(int kind) {
-        if (kind < 11) {
+        if (kind < 10) {
             add("stem");
             where();
             slot();
@@ -67,20 +76,33 @@ final class BookWriter {
             if (random.nextInt(3) == 0) {
                 add("last");
             }
-        } else if (kind == 24) {
+        } else if (kind < 26) {
             add("compound");
             where();
             add("tense", number(tenses), "by", any(verbs), "tense", number(tenses), "part", number(tenses));
         } else if (kind < 28) {
-            add("except", any(verbs));
-            slot();
-            quote(letters(1, 4));
+            addExcept();
         } else if (kind < 30) {
             add("lack", any(verbs));
             slot();
         } else {
             add(new String[] {"last", "stem all tense 0 ''", "except a tense 7", "lack zz", "ending in zz", "sound 'a' to",
                 "class class", "verb", "sound '' to 'a'", "lack a tense 0 person 6"}[kind - 30]);
+        }
+    }
+
+    private void addExcept() {
+        String verb = any(verbs);
+        int start = out.length();
+        slot();
+        String slot = out.substring(start).replaceAll("\\s", "");
+        out.setLength(start);
+        boolean third = excepts.merge(verb + slot, 1, Integer::sum) > 2;
+        if (third && !careless) {
+            add("lack", verb, "tense", number(tenses), "person", number(6));
+        } else {
+            add("except", verb, slot.replace("tense", "tense ").replace("person", " person "));
+            quote(letters(1, 4));
         }
     }
 
@@ -94,8 +116,8 @@ final class BookWriter {
 
     private void slot() {
         add("tense", number(tenses));
-        if (random.nextInt(3) == 0) {
-            add("person", number(6));
+        if (random.nextInt(2) == 0) {
+            add("person", number(random.nextBoolean() ? 2 : 6));
         }
     }
 
@@ -120,7 +142,7 @@ final class BookWriter {
     }
 
     private String number(int bound) {
-        return "" + (random.nextInt(400) == 0 ? random.nextInt(20) : random.nextInt(bound));
+        return "" + (careless && random.nextInt(50) == 0 ? random.nextInt(20) : random.nextInt(bound));
     }
 
     private String any(List<String> names) {

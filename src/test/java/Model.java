@@ -6,6 +6,7 @@ import java.util.LinkedHashMap;
 import java.util.LinkedHashSet;
 import java.util.List;
 import java.util.Map;
+import java.util.Random;
 import java.util.Set;
 
 /** The document once more, in the plainest way, to be compared with the class on random runs. */
@@ -559,6 +560,26 @@ final class Model {
             misses[l][line] = Math.min(99, misses[l][line] + 1);
         }
         return w[0];
+    }
+
+    /** What a learner who misses some rules there, up to three of them, might say. */
+    String slipOf(int v, int t, int p, Random random) {
+        List<Integer> stems = new ArrayList<>(List.of(-1));
+        List<Integer> endings = new ArrayList<>(List.of(-1));
+        Set<Integer> leftOut = new HashSet<>();
+        for (int l = 0; l < book.rules.size(); l++) {
+            if (book.rules.get(l).kind < 2) {
+                (book.rules.get(l).kind == 0 ? stems : endings).add(l);
+            } else if (book.rules.get(l).kind == 2 && random.nextInt(3) == 0) {
+                leftOut.add(l);
+            }
+        }
+        List<Integer> ownStems = fitting(0, v, t, p);
+        List<Integer> ownEndings = fitting(1, v, t, p);
+        int stem = random.nextInt(3) == 0 ? stems.get(random.nextInt(stems.size())) : ownStems.isEmpty() ? -1 : ownStems.get(0);
+        int ending = random.nextInt(3) == 0 ? endings.get(random.nextInt(endings.size())) : ownEndings.isEmpty() ? -1 : ownEndings.get(0);
+        Made m = regular(v, stem, ending, random.nextInt(3) == 0 ? Set.of() : leftOut);
+        return m == null ? "" : m.word;
     }
 
     int change(int what) {
