@@ -121,6 +121,9 @@ public final class FormsTest {
         forms(x, 0, 0, 1, "");
         forms(x, 1, 0, 0, "");
         CHECK.due("rivals in spite of lack", x.rivals(1, 0, 0), 1);
+        x = Check.school("class a;verb x of a;ending all tense 0 'e';compound all tense 1 by x tense 0 part 0;lack x tense 1 person 3;");
+        forms(x, 0, 1, 2, "xe xe:1,0,0");
+        forms(x, 0, 1, 3, "");
     }
 
     private static void compounds() {

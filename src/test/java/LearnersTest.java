@@ -271,5 +271,8 @@ public final class LearnersTest {
         Check.book(x, "class a;verb ab of a;ending all tense 0 'c';sound 'bc' to 'd';compound all tense 1 by ab tense 0 part 0;");
         Check.answer(x, 0, 0, 0, 0, "abc");
         CHECK.due("each line once", x.drill(0), 1);
+        x = Check.school("class a;verb x of a;ending all tense 1 'e';except x tense 1 person 1 'p';except x tense 1 'q';");
+        Check.answer(x, 0, 0, 1, 0, "xe");
+        CHECK.due("the first form's row alone", x.drill(0), 12);
     }
 }
