@@ -103,4 +103,22 @@ final class Check {
         }
         return all.toString();
     }
+
+    /** Classes a, b, c, .. */
+    static String classes(int size) {
+        StringBuilder all = new StringBuilder();
+        for (int c = 0; c < size; c++) {
+            all.append("class ").append((char) ('a' + c)).append(';');
+        }
+        return all.toString();
+    }
+
+    /** Verbs a, b, aa, ab, .. of class a. */
+    static String verbs(int size) {
+        StringBuilder all = new StringBuilder();
+        for (int v = 0; v < size; v++) {
+            all.append("verb ").append(Integer.toBinaryString(v + 2).substring(1).replace('0', 'a').replace('1', 'b')).append(" of a;");
+        }
+        return all.toString();
+    }
 }
