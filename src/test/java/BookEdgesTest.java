@@ -13,6 +13,7 @@ public final class BookEdgesTest {
         everyByte();
         runsThatAreTooLong();
         lettersThatDontEndSo();
+        tokensThatAreMissing();
         endOfText();
         wordsThatAreQuoted();
         leastKindOfOneToken();
@@ -23,6 +24,7 @@ public final class BookEdgesTest {
         end();
         book();
         fault();
+        nothingOfEarlierBooks();
         verb();
         line();
         count();
@@ -101,6 +103,47 @@ public final class BookEdgesTest {
         bad(1, "sound 'a' to 'b'^'';");
     }
 
+    /** With any one TOKEN left out but last, and person with its N, no text goes on at the next one. */
+    private static void tokensThatAreMissing() {
+        String[] items = {"class b ;", "verb y of a ;", "stem all tense 0 'a' to 'b' ;", "stem in a tense 0 person 1 'a' to 'b' ;",
+            "ending all tense 0 '' ;", "ending in a tense 0 person 1 'a' ;", "sound 'a' to '' ;", "sound 'a' to 'b' last ;",
+            "compound all tense 0 by x tense 1 part 2 ;", "compound in a tense 0 by x tense 1 part 2 ;",
+            "except x tense 0 'a' ;", "except x tense 0 person 1 'a' ;", "lack x tense 0 ;", "lack x tense 0 person 1 ;"};
+        for (String item : items) {
+            String[] tokens = item.split(" ");
+            for (int out = 0; out < tokens.length; out++) {
+                StringBuilder marked = new StringBuilder(SMALL);
+                for (int i = 0; i < tokens.length; i++) {
+                    marked.append(i == out ? "" : " ").append(i == out + 1 ? "^" : "").append(i == out ? "" : tokens[i]);
+                }
+                if (out > 0) {
+                    cutShort(tokens, out);
+                }
+                if (out == tokens.length - 1) {
+                    bad(1, marked + " ^class c;");
+                } else if (tokens[out].equals("last")) {
+                    good(marked.toString().replace("^", ""), 1);
+                } else {
+                    bad(1, marked.toString());
+                }
+            }
+        }
+    }
+
+    /** The item's first TOKENS, and then a ; though it isn't whole yet. */
+    private static void cutShort(String[] tokens, int size) {
+        StringBuilder text = new StringBuilder(SMALL);
+        for (int i = 0; i < size; i++) {
+            text.append(tokens[i]).append(' ');
+        }
+        boolean whole = tokens[size].equals(";") || tokens[size].equals("last") || tokens[0].equals("lack") && tokens[size].equals("person");
+        if (whole) {
+            good(text + ";", tokens[0].equals("class") || tokens[0].equals("verb") ? 0 : 1);
+        } else {
+            bad(1, text + "^;");
+        }
+    }
+
     private static void endOfText() {
         String[] texts = {"class a", "class", "verb x of", "verb x", "verb", "stem all tense 0 'a' to", "stem all tense 0 'a'",
             "stem all tense 0", "stem all tense", "stem all", "stem", "ending all tense 0 person", "ending all tense 0 person 0",
@@ -118,6 +161,9 @@ public final class BookEdgesTest {
         bad(1, SMALL + "except x^");
         bad(1, SMALL + "except x tense 0 person 0 'a'^");
         bad(1, SMALL + "lack x tense 0^");
+        bad(1, SMALL + "compound all ^by x tense 0 part 0;");
+        bad(1, SMALL + "compound all tense 0 by x ^part 0;");
+        bad(1, SMALL + "except x ^'a';");
         good("", 0);
         good("\n", 0);
         good(" ".repeat(4000), 0);
@@ -354,6 +400,34 @@ public final class BookEdgesTest {
         x.book();
         CHECK.due("0 without", x.fault(0), 0);
         CHECK.due("NONE without", x.fault(1), -1);
+    }
+
+    /** Of each two items, the second one's LINE is the same as if the first had never been told. */
+    private static void nothingOfEarlierBooks() {
+        String[] items = {"stem in a tense 4 person 5 'abc' to 'de';", "ending in a tense 3 person 4 'abcd';", "sound 'abcde' to 'f' last;",
+            "sound 'a' to '';", "compound in a tense 2 by y tense 3 part 4;", "except y tense 1 person 2 'abcdef';", "lack y tense 4 person 1;",
+            "lack x tense 0;", "ending all tense 0 '';"};
+        for (String earlier : items) {
+            for (String item : items) {
+                String verbs = SMALL + "verb y of a;";
+                VerbSchool fresh = Check.school(verbs + item);
+                VerbSchool x = Check.school(verbs + earlier);
+                Check.book(x, verbs + earlier + earlier);
+                Check.book(x, verbs + earlier + "lack");
+                CHECK.due("one LINE", Check.book(x, verbs + item), 1);
+                for (int what = 0; what < 7; what++) {
+                    CHECK.due(item + " behind " + earlier + " what " + what, x.line(0, what), fresh.line(0, what));
+                }
+                CHECK.due("no other LINE", x.line(1, 0), -9);
+                CHECK.due("FORMS", Check.forms(x, 0, 0, 0), Check.forms(fresh, 0, 0, 0));
+            }
+        }
+        for (String first : new String[] {"", SMALL, "class", "class a;;", "class a 'b'"}) {
+            VerbSchool x = new VerbSchool();
+            Check.book(x, first);
+            CHECK.due("a byte that is none at first, behind " + first, Check.book(x, "\t"), -1);
+            CHECK.due("its FAULT behind " + first, x.fault(0) * 10 + x.fault(1), 10);
+        }
     }
 
     private static void verb() {

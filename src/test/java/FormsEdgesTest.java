@@ -18,6 +18,7 @@ public final class FormsEdgesTest {
         noBytes();
         compoundsThatLack();
         compoundsOfThirtyBytes();
+        lineZero();
         longestRow();
         placesOutOfBounds();
         formAndRow();
@@ -128,6 +129,8 @@ public final class FormsEdgesTest {
         x = Check.school("class a;verb aaaaaaaaaaaa of a;ending all tense 0 'aaa';ending all tense 1 'aaab';sound 'a' to 'cc';");
         due("30 bytes", x, 0, 0, 0, "c".repeat(30) + ":0,2");
         due("31 bytes", x, 0, 1, 0, "");
+        x = Check.school("class a;verb aaaaaaaaaaaa of a;ending all tense 0 'aaa';sound 'a' to 'cc';sound 'c' to 'd';sound 'd' to 'e' last;");
+        due("each of 30 places", x, 0, 0, 0, "d".repeat(29) + "e:0,1,2,3");
         x = Check.school("class a;verb aaaaaaaaaaaa of a;ending all tense 0 'aaa';ending all tense 1 'aaab';sound 'a' to 'cc';"
             + "sound 'c' to 'd' last;sound 'd' to 'ee' last;sound 'c' to '';");
         due("30, then 31 by last, then fewer", x, 0, 0, 0, "");
@@ -179,6 +182,22 @@ public final class FormsEdgesTest {
             + "except bbbbbbbbbbbb tense 2 person 0 'p';except bbbbbbbbbbbb tense 2 person 0 'q';"), 1, 4, 1, "abcdefgh p:4,5,6|abcdefgh q:4,5,7");
         due("the first is too long", Check.school(text + "sound 'd' to 'dddddddd';sound 'c' to 'cc';except bbbbbbbbbbbb tense 1 person 0 'p';"),
             1, 3, 0, "aaaaaaaaaaaacccccccc p:3,0,6,7");
+    }
+
+    /** A LINE of each KIND as the first one of all. */
+    private static void lineZero() {
+        String rest = "ending all tense 0 'e';compound all tense 1 by x tense 0 part 0;";
+        due("stem", Check.school(SMALL + "stem all tense 0 'x' to 'y';" + rest), 0, 0, 0, "ye:0,1");
+        due("ending", Check.school(SMALL + rest), 0, 0, 0, "xe:0");
+        due("sound", Check.school(SMALL + "sound 'x' to 'y';" + rest), 0, 0, 0, "ye:1,0");
+        due("compound", Check.school(SMALL + "compound all tense 0 by x tense 2 part 3;ending all tense 2 'o';ending all tense 3 'u';" + rest),
+            0, 0, 0, "xo xu:0,1,2");
+        due("except", Check.school(SMALL + "except x tense 0 'p';" + rest), 0, 0, 0, "p:0");
+        due("except where a compound FITS", Check.school(SMALL + "except x tense 1 'p';" + rest), 0, 1, 0, "p:0");
+        due("except of a part", Check.school(SMALL + "except x tense 0 'p';" + rest), 0, 1, 0, "p p:2,0,0");
+        due("lack", Check.school(SMALL + "lack x tense 0;" + rest), 0, 0, 0, "");
+        due("lack where a compound FITS", Check.school(SMALL + "lack x tense 1;" + rest), 0, 1, 0, "");
+        due("lack of a part", Check.school(SMALL + "lack x tense 0;" + rest), 0, 1, 0, "");
     }
 
     private static void longestRow() {
@@ -349,5 +368,13 @@ public final class FormsEdgesTest {
         CHECK.due("unused", x.unused(), 3);
         Check.book(x, "class a;class;");
         CHECK.due("a BOOK with a FAULT leaves it", x.unused(), 3);
+        Check.book(x, SMALL + "ending all tense 0 person 0 'e';");
+        CHECK.due("used at the first place alone", x.unused(), 0);
+        CHECK.due("its users", x.users(0), 1);
+        Check.book(x, SMALL + "verb y of a;except y tense 4 person 5 'e';");
+        CHECK.due("used at the last place alone", x.unused(), 0);
+        CHECK.due("its users", x.users(0), 1);
+        CHECK.due("the first place has none of an earlier BOOK", Check.read(x, "xe"), 0);
+        CHECK.due("nor has the drill", x.drill(0), 145);
     }
 }

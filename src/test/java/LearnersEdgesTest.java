@@ -23,6 +23,8 @@ public final class LearnersEdgesTest {
         firstByStem();
         firstByEnding();
         firstBySounds();
+        lineZero();
+        nothingOfEarlierBooks();
         changeEdges();
         missesUpTo99();
         missesDownTo0();
@@ -273,6 +275,51 @@ public final class LearnersEdgesTest {
         CHECK.due("form", Check.forms(x, 0, 0, 0), "f:0,1,2,5,7");
         slip(x, "d", 2, "5/1/-1");
         CHECK.due("the lesser number: 1 ahead of 2", x.misses(0, 2), 0);
+    }
+
+    /** A LINE of each KIND as the first one of all. */
+    private static void lineZero() {
+        VerbSchool x = Check.school(SMALL + "stem all tense 0 'x' to 'y';ending all tense 0 'e';");
+        slip(x, "xe", 2, "1/0/-1");
+        CHECK.due("stem: drill", x.drill(0), 1);
+        x = Check.school(SMALL + "stem all tense 1 'x' to 'y';ending all tense 0 'e';");
+        slip(x, "ye", 3, "2/0/0");
+        x = Check.school(SMALL + "ending all tense 1 'o';ending all tense 0 'e';");
+        slip(x, "xo", 3, "3/1/0");
+        x = Check.school(SMALL + "sound 'y' to 'z';verb y of a;ending all tense 0 'e';sound 'e' to 'o';");
+        CHECK.due("a sound", Check.answer(x, 0, 1, 0, 0, "yo"), 2);
+        CHECK.due("it is LINE 0", Check.changes(x), "5/0/-1");
+        CHECK.due("its misses", x.misses(0, 0), 1);
+        CHECK.due("its drill", x.drill(0), 101);
+        CHECK.due("two sounds", Check.answer(x, 0, 1, 0, 0, "ye"), 4);
+        CHECK.due("they are", Check.changes(x), "5/0/-1 5/2/-1");
+        Check.answer(x, 0, 1, 0, 0, "zo");
+        CHECK.due("1 off it", x.misses(0, 0), 1);
+        x = Check.school(SMALL + "compound all tense 0 by x tense 1 part 1;except x tense 0 'p';ending all tense 0 'e';");
+        CHECK.due("a compound FITS", Check.answer(x, 0, 0, 0, 0, "xe"), -5);
+        x = Check.school(SMALL + "except x tense 0 'p';ending all tense 0 'e';");
+        slip(x, "xe", 2, "0/0/-1");
+        CHECK.due("except: misses", x.misses(0, 0), 1);
+    }
+
+    /** A way by a LINE that is told no more is none. */
+    private static void nothingOfEarlierBooks() {
+        String[] lines = {"ending all tense 1 'o';", "stem all tense 1 'x' to 'xo';", "sound 'e' to 'o';"};
+        for (String line : lines) {
+            VerbSchool x = Check.school(SMALL + "ending all tense 0 'e';" + line);
+            Check.book(x, SMALL + "ending all tense 0 'e';" + line);
+            Check.book(x, SMALL + "ending all tense 0 'e';");
+            none(x, "xo");
+            none(x, "xoe");
+            CHECK.due("right", Check.answer(x, 0, 0, 0, 0, "xe"), 0);
+        }
+        VerbSchool x = Check.school(SMALL + "ending all tense 0 'e';");
+        Check.read(x, "xe");
+        CHECK.due("a place", x.drill(0), 0);
+        Check.book(x, SMALL + "ending all tense 1 'e';");
+        CHECK.due("another place", x.drill(0), 10);
+        CHECK.due("6 places", Check.read(x, "xe"), 6);
+        CHECK.due("the first of them", x.place(0, 1), 1);
     }
 
     // ---- promise 17
